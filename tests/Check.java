@@ -1,0 +1,51 @@
+/** Compares answers with those that are due, and counts the wrong ones. */
+final class Check {
+    /** A call that may throw; what it answers counts as a number (a boolean 1 or 0, void 0). */
+    interface Call {
+        long answer();
+    }
+
+    static final String INDEX = "IndexOutOfBoundsException";
+    static final String ARGUMENT = "IllegalArgumentException";
+    static final String STATE = "IllegalStateException";
+
+    private static int wrong = 0;
+    private static int checks = 0;
+
+    private Check() {
+    }
+
+    static void due(String what, long want, Call call) {
+        report(what, Long.toString(want), outcome(call));
+    }
+
+    static void thrown(String what, String want, Call call) {
+        report(what, want, outcome(call));
+    }
+
+    /** The answer as a text, or the plain name of the exception that was thrown. */
+    static String outcome(Call call) {
+        try {
+            return Long.toString(call.answer());
+        } catch (RuntimeException e) {
+            return e.getClass().getSimpleName();
+        }
+    }
+
+    static void report(String what, String want, String got) {
+        checks++;
+        if (!want.equals(got)) {
+            wrong++;
+            if (wrong <= 50) {
+                System.out.println(what + " answered " + got + ", due is " + want);
+            }
+        }
+    }
+
+    static void end() {
+        System.out.println(wrong == 0 ? checks + " answers are as due" : wrong + " of " + checks + " are not as due");
+        if (wrong != 0 || checks == 0) {
+            System.exit(1);
+        }
+    }
+}
