@@ -111,6 +111,11 @@ public final class AskedTest {
         int rank = rankOf(strong, 0, 0);
         Check.due("18 24 by 961", 0, () -> strong.imageOf(0, rank, 2));
         Check.due("22 no light", 0, () -> strong.light(0, rank));
+        Delaylens off = new Delaylens();
+        off.mass(Delaylens.HALO, 0, 0, 5);
+        off.source(1, 1, 10);
+        told("18 first", off, 0, 3, 3, 24, -20, 0);
+        told("18 -1 times -1 less 3 times 3", off, 3, -1, -1, -3, 20, 11);
         Delaylens flat = new Delaylens();
         flat.mass(Delaylens.SHEAR, 0, 0, 8);
         flat.source(0, 0, 10);
@@ -130,6 +135,12 @@ public final class AskedTest {
         corner.mass(Delaylens.SHEAR, 0, 10, 8);
         corner.source(-10, 10, 1);
         told("18 in the corner", corner, 0, 10, 10, -8, 2000, 0);
+        Check.due("17 in the corner", 1, () -> corner.imagesAnew(0));
+        Delaylens ends = new Delaylens();
+        ends.source(-10, -10, 1);
+        ends.source(10, 10, 1);
+        Check.due("17 the first ray", 1, () -> ends.imagesAnew(0));
+        Check.due("17 the last ray", 1, () -> ends.imagesAnew(1));
     }
 
     private static void hitsAndLost() {
@@ -242,6 +253,11 @@ public final class AskedTest {
         Check.thrown("24 no source", Check.INDEX, () -> x.seen(0, -1, 0));
         Check.thrown("24 rank", Check.ARGUMENT, () -> x.seen(0, 0, 6));
         Check.thrown("24 rank", Check.ARGUMENT, () -> x.seen(0, 0, -1));
+        x.source(4, 4, 1);
+        x.source(0, -2, 100);
+        x.pass(1);
+        x.frame();
+        Check.due("24 the fifth source", 2400, () -> x.seen(2, 4, 5));
         x.mass(Delaylens.HALO, 0, 0, 1);
         Check.thrown("24 gone", Check.INDEX, () -> x.seen(0, 0, 0));
     }
@@ -285,6 +301,11 @@ public final class AskedTest {
             x.frame();
         }
         Check.due("25 divided exactly", 1, () -> x.measured(0, 0, 1));
+        x.book(1, 0, 0, 1);
+        for (int mind = 0; mind < 3; mind++) {
+            x.vote(mind, true);
+        }
+        Check.due("12 by 1 day", 16 * 20, () -> x.booked(1));
         Delaylens even = new Delaylens();
         even.mass(Delaylens.HALO, 0, 0, 4);
         even.source(1, 0, 10);
@@ -312,18 +333,13 @@ public final class AskedTest {
         Check.due("25 three pairs", 0, () -> x.measured(0, 0, 1));
         x.mass(Delaylens.SHEAR, 0, 0, 1);
         Check.due("25 worthless", Delaylens.NONE, () -> x.measured(0, 0, 1));
-        Delaylens star = new Delaylens();
-        star.mass(Delaylens.STAR, 0, 0, 1);
-        star.source(0, 0, 5);
-        for (int today = 0; today < 8; today++) {
-            if (today == 1 || today == 3) {
-                star.cross(0, 0, 1, today * 2);
-                star.cross(0, 2, 2, today * 8);
-            }
-            star.frame();
-            star.pass(1);
+        for (int[] ranks : new int[][] {{0, 2}, {2, 0}, {1, 2}, {0, 1}}) {
+            Delaylens star = new Delaylens();
+            star.mass(Delaylens.STAR, 0, 0, 1);
+            star.source(0, 0, 5);
+            ToldTest.flicker(star, ranks[0], ranks[1]);
+            Check.due("25 weighed by brightness without signs", 3, () -> star.measured(0, ranks[0], ranks[1]));
         }
-        Check.due("25 weighed by brightness without signs", 1, () -> star.measured(0, 0, 2));
     }
 
     private static void measuredArguments() {
@@ -338,6 +354,7 @@ public final class AskedTest {
         Check.thrown("25 no other image", Check.INDEX, () -> x.measured(0, 6, -1));
         Check.thrown("25 the same", Check.ARGUMENT, () -> x.measured(0, 2, 2));
         Check.thrown("25 above 5", Check.ARGUMENT, () -> x.measured(0, 6, 0));
+        Check.thrown("25 above 5", Check.ARGUMENT, () -> x.measured(0, 0, 6));
         Check.thrown("25 above 5", Check.ARGUMENT, () -> x.measured(0, 0, 20));
         Check.due("25 up to 5", Delaylens.NONE, () -> x.measured(0, 5, 4));
     }
@@ -393,7 +410,9 @@ public final class AskedTest {
         Check.due("28 one booked nothing", Delaylens.NONE, () -> x.dispute());
         x.book(1, 0, 0, 1);
         Check.due("28 they agree", 0, () -> x.dispute());
-        flicker(x);
+        // This makes frames worthless; the images' ways are 13 and 45 then.
+        x.mass(Delaylens.HALO, -10, 0, 1);
+        ToldTest.flicker(x, 0, 1);
         Check.due("28 measured anew", 3, () -> x.measured(0, 0, 1));
         x.book(1, 0, 0, 1);
         long other = 32 * 20 / 3;
@@ -403,19 +422,6 @@ public final class AskedTest {
         Check.due("28 agreed again", 0, () -> x.dispute());
         x.book(0, 0, 1, 0);
         Check.due("28 one is NONE", Delaylens.NONE, () -> x.dispute());
-    }
-
-    /** A mass that makes frames worthless (the images' ways are 13 and 45 then), and bumps 3 days apart. */
-    private static void flicker(Delaylens x) {
-        x.mass(Delaylens.HALO, -10, 0, 1);
-        int[] ranks = {0, -1, 0, 1, -1, 1, -1, -1};
-        for (int rank : ranks) {
-            if (rank >= 0) {
-                x.cross(0, rank, 1, 24);
-            }
-            x.frame();
-            x.pass(1);
-        }
     }
 
     private static long fresh(Delaylens x, int house) {

@@ -28,8 +28,20 @@ final class Check {
         try {
             return Long.toString(call.answer());
         } catch (RuntimeException e) {
-            return e.getClass().getSimpleName();
+            String kind = e.getClass().getSimpleName();
+            return isByMachine(e) ? kind + " by the machine or its library" : kind;
         }
+    }
+
+    /** An exception of the program's own is made in the very method that throws it; others come from elsewhere. */
+    private static boolean isByMachine(RuntimeException e) {
+        StackTraceElement[] calls = e.getStackTrace();
+        boolean isOwn = calls.length > 0 && !calls[0].getClassName().startsWith("java.")
+            && !calls[0].getClassName().startsWith("jdk.");
+        Class<?> kind = e.getClass();
+        boolean isTold = kind == IndexOutOfBoundsException.class || kind == IllegalArgumentException.class
+            || kind == IllegalStateException.class;
+        return !isOwn || !isTold;
     }
 
     static void report(String what, String want, String got) {

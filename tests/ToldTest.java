@@ -18,6 +18,7 @@ public final class ToldTest {
         framesLimit();
         pass();
         book();
+        bookByWays();
         bookArguments();
         vote();
         Check.end();
@@ -165,6 +166,7 @@ public final class ToldTest {
         Check.due("4 light", 2400, () -> x.light(1, 0));
         Check.thrown("4 the same cell", Check.STATE, () -> x.source(10, 10, 5));
         Check.thrown("4 the same cell out of range", Check.ARGUMENT, () -> x.source(10, 10, 0));
+        Check.thrown("4 the cell of the first", Check.STATE, () -> x.source(-10, -10, 5));
         Check.due("4 the same column", 2, () -> x.source(10, -10, 1));
         Check.due("4 the same row", 3, () -> x.source(-10, 10, 1));
         Check.thrown("4 no fifth yet", Check.INDEX, () -> x.images(4));
@@ -280,6 +282,8 @@ public final class ToldTest {
         Check.due("7 day 103", 3, () -> x.frame());
         x.pass(1);
         Check.thrown("7 day 104", Check.STATE, () -> x.frame());
+        Check.due("7 the last of 100", 0, () -> seasoned(x, 99, 99));
+        Check.thrown("7 not this day", Check.STATE, () -> x.frame());
         Check.due("7 the whole", 0, () -> seasoned(x, 0, 99));
         Check.due("7 day 104 then", 4, () -> x.frame());
     }
@@ -415,6 +419,29 @@ public final class ToldTest {
         Check.due("12 above 5", Delaylens.NONE, () -> many.booked(0));
     }
 
+    private static void bookByWays() {
+        Delaylens x = near();
+        flicker(x, 0, 1);
+        Check.due("12 measured", 3, () -> x.measured(0, 0, 1));
+        x.book(0, 0, 0, 1);
+        Delaylens longer = near();
+        flicker(longer, 1, 2);
+        Check.due("12 measured", 3, () -> longer.measured(0, 1, 2));
+        longer.book(0, 0, 1, 2);
+        open(x);
+        open(longer);
+        Check.due("12 ways alike", Delaylens.NONE, () -> x.booked(0));
+        Check.due("12 longer by 1", 20 / 3, () -> longer.booked(0));
+    }
+
+    /** The images' ways are -7, -7 and -6. */
+    private static Delaylens near() {
+        Delaylens x = new Delaylens();
+        x.mass(Delaylens.HALO, 0, 0, 2);
+        x.source(1, 1, 10);
+        return x;
+    }
+
     private static void bookArguments() {
         Delaylens x = flickered(150, 0);
         Check.thrown("12 no house", Check.INDEX, () -> x.book(-1, 0, 0, 0));
@@ -487,6 +514,18 @@ public final class ToldTest {
         }
         bump(x, 1 - rank);
         return x;
+    }
+
+    /** On 8 days with frames, both images are bumped twice, the other one 3 days later than the one. */
+    static void flicker(Delaylens x, int one, int other) {
+        int[] ranks = {one, -1, one, other, -1, other, -1, -1};
+        for (int rank : ranks) {
+            if (rank >= 0) {
+                x.cross(0, rank, 1, 12 * Math.abs(x.imageOf(0, rank, 2)));
+            }
+            x.frame();
+            x.pass(1);
+        }
     }
 
     private static void bump(Delaylens x, int rank) {
