@@ -5,6 +5,11 @@ final class Check {
         long answer();
     }
 
+    /** A call on a new object with one number that is tried at the ends of its range. */
+    interface Tried {
+        long answer(int number);
+    }
+
     static final String INDEX = "IndexOutOfBoundsException";
     static final String ARGUMENT = "IllegalArgumentException";
     static final String STATE = "IllegalStateException";
@@ -21,6 +26,25 @@ final class Check {
 
     static void thrown(String what, String want, Call call) {
         report(what, want, outcome(call));
+    }
+
+    /** All numbers from least to most are taken; those right beside them, and the farthest, are refused. */
+    static void range(String what, String refusal, int least, int most, Tried call) {
+        for (int number = least; number <= most; number++) {
+            int taken = number;
+            String got = outcome(() -> call.answer(taken));
+            report(what + " " + number + " is taken", "true", "" + !got.contains("Exception"));
+        }
+        for (int number : new int[] {least - 1, most + 1, Integer.MIN_VALUE, Integer.MAX_VALUE}) {
+            int refused = number;
+            thrown(what + " " + number + " is refused", refusal, () -> call.answer(refused));
+        }
+    }
+
+    /** Runs a call that answers nothing. */
+    static long done(Runnable call) {
+        call.run();
+        return 0;
     }
 
     /** The answer as a text, or the plain name of the exception that was thrown. */

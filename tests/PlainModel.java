@@ -63,6 +63,27 @@ final class PlainModel {
         }
     }
 
+    int sourceCount() {
+        return sources.size();
+    }
+
+    int massCount() {
+        return masses.size();
+    }
+
+    int imageCount(int source) {
+        return isSource(source) ? images(source).size() : 0;
+    }
+
+    /** The cell among these from which the most rays come. */
+    int[] brightest(int[][] cells) {
+        int[] best = cells[0];
+        for (int[] c : cells) {
+            best = hits(c[0], c[1]) > hits(best[0], best[1]) ? c : best;
+        }
+        return best;
+    }
+
     private long asked(String name, int... a) {
         switch (name) {
             case "day": return day;
@@ -364,18 +385,22 @@ final class PlainModel {
     private int measure(int source, int rank, int other) {
         long one = Math.abs(images(source).get(rank).bright());
         long two = Math.abs(images(source).get(other).bright());
+        List<Integer> ones = new ArrayList<>();
+        List<Integer> others = new ArrayList<>();
+        for (Frame f : frames) {
+            ones.add(f.lights().get(source + "/" + rank));
+            others.add(f.lights().get(source + "/" + other));
+        }
         int best = -1;
         long bestSum = 0;
         long bestPairs = 1;
         for (int days = 0; days <= 150; days++) {
             long sum = 0;
             long pairs = 0;
-            for (Frame earlier : frames) {
-                for (Frame later : frames) {
-                    Integer a = earlier.lights().get(source + "/" + rank);
-                    Integer b = later.lights().get(source + "/" + other);
-                    if (later.day() - earlier.day() == days && a != null && b != null) {
-                        sum += Math.abs(a * two - b * one);
+            for (int i = 0; i < frames.size(); i++) {
+                for (int j = 0; j < frames.size(); j++) {
+                    if (frames.get(j).day() - frames.get(i).day() == days && ones.get(i) != null && others.get(j) != null) {
+                        sum += Math.abs(ones.get(i) * two - others.get(j) * one);
                         pairs++;
                     }
                 }
