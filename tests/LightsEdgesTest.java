@@ -416,7 +416,12 @@ public final class LightsEdgesTest {
 
     /** A star on the first image, and some days later one on the second; three frames of both. */
     private static Delaylens bumped(int days) {
+        return bumped(days, 70);
+    }
+
+    private static Delaylens bumped(int days, int growth) {
         Delaylens x = Sky.pair(1);
+        x.world(growth);
         Sky.bump(x, 0, 0, 24);
         Sky.pass(x, days - 2);
         Sky.bump(x, 0, 1, 24);
@@ -532,6 +537,18 @@ public final class LightsEdgesTest {
             x.pass(1);
         }
         Check.due("3, 7 or 11", 3, () -> x.measured(0, 0, 1));
+        // A star on the first image, on the last day alone, makes like days unlike, and no others.
+        Delaylens y = Sky.pair(1);
+        for (int today = 0; today <= 11; today++) {
+            if (today == 10) {
+                y.cross(0, 0, 1, 24);
+            }
+            if (today % 2 == 0 || today >= 8) {
+                y.frame();
+            }
+            y.pass(1);
+        }
+        Check.due("three pairs a day apart, six pairs two days apart", 1, () -> y.measured(0, 0, 1));
     }
 
     /** A frame that was taken ahead of a source makes no pair. */
@@ -555,6 +572,9 @@ public final class LightsEdgesTest {
         Sky.frames(even, 3);
         bookedIs("the delay is 0", Delaylens.NONE, even, 0, 1);
         bookedIs("the way is longer", 24 * 20 / 6, bumped(6), 0, 1);
+        for (int growth : new int[] {40, 100}) {
+            bookedIs("whatever growth was told", 24 * 20 / 6, bumped(6, growth), 0, 1);
+        }
         Delaylens turned = Sky.pair(1);
         Sky.bump(turned, 0, 1, 24);
         turned.pass(4);

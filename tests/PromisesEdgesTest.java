@@ -284,6 +284,7 @@ public final class PromisesEdgesTest {
         Sky.pass(x, 1979);
         Check.due("8 on the last day", 2000, () -> x.cloud(0));
         Check.due("8 a frame on the last day", 1, () -> x.frame());
+        Check.due("8 the first clear day may be beyond the last one", 2050, () -> x.cloud(50));
     }
 
     private static void promise9() {

@@ -17,6 +17,7 @@ public final class TermsEdgesTest {
         cellsRightBeyondTheField();
         imagesAreCellsOfTheField();
         noImages();
+        asManyImagesAsWereFound();
         asManyTimesAs24DividedByTheNumber();
         theNumberTakesOneProductFromTheOther();
         ways();
@@ -214,6 +215,28 @@ public final class TermsEdgesTest {
         Check.thrown("book", Check.INDEX, () -> x.book(0, 0, 0, 1));
         Check.due("seen", Delaylens.NONE, () -> x.seen(0, 0, 0));
         Check.due("flare", 99, () -> x.flare(0, -1));
+    }
+
+    /** Six masses that bring 87 rays to one cell, the most that a search came to; told by the plain model. */
+    private static void asManyImagesAsWereFound() {
+        int[][] masses = {{0, -4, -3, 5}, {0, 6, 9, 6}, {0, 6, -2, 2}, {0, 9, -3, 4}, {0, 7, -9, 2}, {0, -4, 8, 3}};
+        Delaylens x = new Delaylens();
+        PlainModel model = new PlainModel();
+        for (int[] m : masses) {
+            x.mass(m[0], m[1], m[2], m[3]);
+            model.call("mass", m);
+        }
+        x.source(3, 2, 1);
+        model.call("source", 3, 2, 1);
+        Check.due("images", 87, () -> x.images(0));
+        Check.due("images anew", 87, () -> x.imagesAnew(0));
+        Check.due("hits", 87, () -> x.hits(3, 2));
+        for (int i = 0; i < 87 * 5; i++) {
+            int rank = i / 5;
+            int what = i % 5;
+            Check.due("image " + rank + ", " + what, model.call("imageOf", 0, rank, what), () -> x.imageOf(0, rank, what));
+        }
+        Check.thrown("no more of them", Check.INDEX, () -> x.imageOf(0, 87, 0));
     }
 
     /** "The image is as many times as bright as 24 divided by that number, or 24 times, if it is 0; below 0 if ..." */
